@@ -160,7 +160,7 @@ public final class MapFold {
         if (what < 0 || what > 3) {
             return BAD;
         }
-        int can = planned.tryAll(now, changes.value, wearing);
+        int can = planned.tryFirst(MAX_PLAN, now, changes.value, wearing);
         Sheet tried = planned.trial;
         switch (what) {
             case 0: return can;
@@ -434,7 +434,7 @@ public final class MapFold {
 
     /** Lays the trial sheet behind the plan's first n folds; false if n is not within 0 .. CAN. */
     private boolean behind(int n) {
-        return planned.tryFirst(n, now, changes.value, wearing);
+        return n >= 0 && planned.tryFirst(n, now, changes.value, wearing) == n;
     }
 
     private int refusedElement(int shelf, int i) {
@@ -935,10 +935,10 @@ public final class MapFold {
             for (int i = 0; i < stepCount; i++) {
                 switch (steps[i]) {
                     case ';':
+                        int answer = pop();
                         if (counts) {
-                            return Math.max(0, Math.min(9, pop()));
+                            return Math.max(0, Math.min(9, answer));
                         }
-                        stacked = 0;
                         counts = true;
                         break;
                     case '?': counts = pop() != 0; break;
@@ -954,8 +954,8 @@ public final class MapFold {
                         if (steps[i] >= NUMBER) {
                             push(steps[i] - NUMBER);
                         } else {
-                            int right = pop();
-                            push(joined(steps[i], pop(), right));
+                            int second = pop();
+                            push(joined(steps[i], pop(), second));
                         }
                         break;
                 }
@@ -1031,30 +1031,16 @@ public final class MapFold {
             return came;
         }
 
-        int tryAll(Sheet sheet, int limit, Law law) {
+        /** Tries the first n folds, or as many as there are: how many of them could be done. */
+        int tryFirst(int n, Sheet sheet, int limit, Law law) {
             trial.beginTrial(sheet);
-            for (int i = 0; i < size; i++) {
+            for (int i = 0; i < n && i < size; i++) {
                 if (!trial.hasLine(lines[i], ways[i])) {
                     return i;
                 }
                 trial.bendAndTurn(lines[i], ways[i], limit, law);
             }
-            return size;
-        }
-
-        /** False: n is below 0, or not so many folds can be done. */
-        boolean tryFirst(int n, Sheet sheet, int limit, Law law) {
-            if (n < 0 || n > size) {
-                return false;
-            }
-            trial.beginTrial(sheet);
-            for (int i = 0; i < n; i++) {
-                if (!trial.hasLine(lines[i], ways[i])) {
-                    return false;
-                }
-                trial.bendAndTurn(lines[i], ways[i], limit, law);
-            }
-            return true;
+            return Math.min(n, size);
         }
 
         /** Over or under leaves the shape's size as it is, so all that can be done still can: z behind it. */
@@ -1116,6 +1102,9 @@ public final class MapFold {
                 return;
             }
             int left = MAX_SOUGHT - depth - 1;
+            if (left < 0) {
+                return;
+            }
             for (int line = 1; line <= MAX_LINE; line++) {
                 for (int way = 0; way < WAYS; way++) {
                     if (here.hasLine(line, way) && canEnd(here, line, way, left)) {

@@ -199,7 +199,8 @@ public final class PromisesTest {
             {"!!!!!!!n", 6}, {"------n", -1}, {"-------n", 6}, {"(!-(!-(n", 6}, {"n!w", 1}, {"n(w)", 1},
             {"(n)w", 3}, {"n?w;", 4}, {"n;w?", 4}, {"!", 1}, {"-", 1}, {"x", 0}, {"n.w", 1}, {"n^w", 1},
             {"(1;2)", 2}, {"n*(w+)", 5}, {"\u00ff", 0}, {"n\u0000", 1}, {"!(n)!w", 4}, {"(((((!n)))))", -1},
-            {"(((((!!n", 6}, {"((((((1))))))+!!!!!!1", -1},
+            {"(((((!!n", 6}, {"n?!!!!!!w", -1}, {"n?!!!!!!!w", 8}, {"n;((((((w))))))", -1}, {"n;!!!!!!(w", 8},
+            {"((((((1))))))+!!!!!!1", -1},
         };
         MapFold x = new MapFold();
         for (Object[] t : texts) {
@@ -822,6 +823,10 @@ public final class PromisesTest {
         }
         due("none any more", x.undo(), STATE);
         due("the oldest are kept no more", x.limit(5), 5);
+        for (int i = 39; i >= 0; i--) {
+            due("may still be done again", x.redo(), i);
+        }
+        due("the latest", x.limit(45), 45);
     }
 
     private static void redo() {
