@@ -234,6 +234,8 @@ public final class PromisesTest {
         for (Object[] t : texts) {
             due("law " + t[0], worth(12, (String) t[0]), (Integer) t[1]);
         }
+        due("120 bytes, each of them counting", worth(12, "!0" + "+0".repeat(58) + "+7"), 8);
+        due("120 bytes of lines", worth(12, "0?1;".repeat(29) + "1?05"), 5);
         MapFold x = made(33);
         write(x, "n");
         x.fold(1, 4);
