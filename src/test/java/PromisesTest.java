@@ -202,10 +202,9 @@ public final class PromisesTest {
             {"(((((!!n", 6}, {"n?!!!!!!w", -1}, {"n?!!!!!!!w", 8}, {"n;((((((w))))))", -1}, {"n;!!!!!!(w", 8},
             {"((((((1))))))+!!!!!!1", -1},
         };
-        MapFold x = new MapFold();
         for (Object[] t : texts) {
             int fault = (Integer) t[1];
-            due("law " + t[0], write(x, (String) t[0]), fault < 0 ? 1 : -100 - fault);
+            due("law " + t[0], write(new MapFold(), (String) t[0]), fault < 0 ? 1 : -100 - fault);
         }
     }
 
@@ -709,16 +708,20 @@ public final class PromisesTest {
 
     private static void orders() {
         promise = 23;
-        MapFold x = new MapFold();
         int[] many = {2, 6, 16, 50, 144, 462};
         for (int n = 2; n <= 7; n++) {
-            due("of " + n, x.orders(n, -1), many[n - 2]);
-            due("the one behind the last of " + n, x.orders(n, many[n - 2]), BAD);
+            MapFold all = new MapFold();
+            due("of " + n, all.orders(n, -1), many[n - 2]);
+            due("the one behind the last of " + n, all.orders(n, many[n - 2]), BAD);
+            int before = 0;
             for (int i = 0; i < many[n - 2]; i++) {
-                due("it crosses nothing", x.crosses(n, x.orders(n, i)), NOT);
-                due("they rise", i == 0 || x.orders(n, i - 1) < x.orders(n, i) ? 1 : 0, 1);
+                int order = all.orders(n, i);
+                due("it crosses nothing", new MapFold().crosses(n, order), NOT);
+                due("they rise", before < order ? 1 : 0, 1);
+                before = order;
             }
         }
+        MapFold x = new MapFold();
         due("first of 4", x.orders(4, 0), 1234);
         due("second of 4", x.orders(4, 1), 1243);
         due("last of 3", x.orders(3, 5), 321);
@@ -770,14 +773,16 @@ public final class PromisesTest {
         MapFold x = new MapFold();
         due("of 3, field 1", x.with(3, 1), 2);
         for (int n = 2; n <= 7; n++) {
+            MapFold all = new MapFold();
             int[] tops = new int[8];
-            for (int i = 0; i < x.orders(n, -1); i++) {
-                tops[x.orders(n, i) % 10 - 1]++;
+            int many = all.orders(n, -1);
+            for (int i = 0; i < many; i++) {
+                tops[all.orders(n, i) % 10 - 1]++;
             }
             for (int f = 0; f < n; f++) {
-                due("of " + n + " field " + f, x.with(n, f), tops[f]);
+                due("of " + n + " field " + f, all.with(n, f), tops[f]);
             }
-            due("no such field", x.with(n, n), BAD);
+            due("no such field", all.with(n, n), BAD);
         }
         due("field -1", x.with(3, -1), BAD);
         due("n 1", x.with(1, 0), BAD);
