@@ -48,6 +48,7 @@ public final class PlanEdgesTest {
         wishedBounds();
         wishedFields();
         wishedDone();
+        soughtAnew();
         rightBounds();
         rightFields();
         rightDone();
@@ -414,6 +415,10 @@ public final class PlanEdgesTest {
                 e.due("pile " + rc + " behind " + n, Math.min(0, x.top(n, rc)), there ? 0 : BAD);
             }
         }
+        for (int field = 0; field < 32; field++) {
+            int rc = 10 * (field / 8) + field % 8;
+            e.due("pile " + rc + " of the largest", Edges.sheetOf(48).top(0, rc), field);
+        }
         for (int far : FAR) {
             e.unchanged("pile " + far, SHORT, x -> x.top(0, far), BAD);
             e.unchanged("behind " + far, SHORT, x -> x.top(far, 0), BAD);
@@ -558,7 +563,30 @@ public final class PlanEdgesTest {
         }
         e.due("field " + field + " on top", done.pile(0, -1), field);
         e.due("one pile", done.flat(), 1);
-        e.unchanged("the one behind the last", before, x -> x.wished(field, folds), BAD);
+        for (int i = folds; i < 5; i++) {
+            int behind = i;
+            e.unchanged("behind the last", before, x -> x.wished(field, behind), BAD);
+        }
+    }
+
+    private static void soughtAnew() {
+        e.says("NOT: none. (More than 16 FIELDS: STATE.): whatever was sought ahead");
+        MapFold x = Edges.sheetOf(12);
+        e.due("one fold", x.wished(1, -1) * 100 + x.wished(1, 0), 111);
+        e.due("right", x.right(-3), 1);
+        x.sheet(44);
+        e.due("none of 16", x.wished(1, -1), NOT);
+        e.due("none of 16", x.right(-3), NOT);
+        x.sheet(48);
+        e.due("too many", x.wished(1, -1), STATE);
+        e.due("too many", x.right(-3), STATE);
+        x.sheet(24);
+        e.due("three folds", x.right(-3) * 100 + x.right(-2), 310);
+        e.due("three folds", x.wished(0, -1) * 100 + x.wished(0, 2), 312);
+        x.sheet(11);
+        e.due("no fold", x.wished(0, -1) + x.right(-1) + x.right(-2) + x.right(-3), 0);
+        e.due("none such", x.wished(0, 0), BAD);
+        e.due("none such", x.right(0), BAD);
     }
 
     private static void rightBounds() {
@@ -617,7 +645,10 @@ public final class PlanEdgesTest {
         e.due("wrong", asked.right(-1), done.led(1));
         e.due("worn", asked.right(-2), asked.cost(1));
         e.due("one pile", done.flat(), 1);
-        e.unchanged("the one behind the last", before, x -> x.right(folds), BAD);
+        for (int i = folds; i < 5; i++) {
+            int behind = i;
+            e.unchanged("behind the last", before, x -> x.right(behind), BAD);
+        }
     }
 
     private static void rightOfEqualOnes() {
@@ -629,6 +660,7 @@ public final class PlanEdgesTest {
         MapFold y = Edges.sheetOf(14);
         Edges.lawOf(y, "n>1");
         e.due("less worn goes ahead of fewer folds", y.right(-3) * 10 + y.right(-2), 30);
+        e.due("the first of those", y.right(0) * 10000 + y.right(1) * 100 + y.right(2), 101010);
         MapFold z = Edges.sheetOf(13);
         Edges.lawOf(z, "r?9;b-1");
         z.fold(1, 0);

@@ -31,6 +31,7 @@ public final class SheetEdgesTest {
         whereBounds();
         pileBounds();
         pileHeights();
+        facesAndHeights();
         ledBounds();
         calls512();
         e.end("the sheet's edges hold");
@@ -532,6 +533,34 @@ public final class SheetEdgesTest {
         }
     }
 
+    private static void facesAndHeights() {
+        e.says("each with its face up (0) or down (1) .. upside down (the lowest on top, faces changed)");
+        MapFold x = Edges.sheetOf(33);
+        x.fold(1, 4);
+        x.fold(1, 0);
+        // The rows of piles are 4 and 2, then 2 and 1 fields high.
+        int[] heights = {4, 2, 2, 1};
+        for (int i = 0; i < 4; i++) {
+            e.due("height " + i, x.pile(10 * (i / 2) + i % 2, -2), heights[i]);
+        }
+        int[][] due = {{0, 0, 0, 2, 0}, {1, 0, 0, 1, 1}, {2, 0, 1, 1, 1}, {3, 0, 0, 3, 1}, {4, 0, 0, 0, 0}, {5, 0, 1, 0, 0},
+            {6, 1, 0, 1, 1}, {7, 1, 0, 0, 0}, {8, 1, 1, 0, 0}};
+        for (int[] d : due) {
+            for (int what = 0; what < 4; what++) {
+                e.due("field " + d[0] + ", " + what, x.where(d[0], what), d[1 + what]);
+            }
+        }
+        x.fold(1, 7);
+        x.fold(1, 2);
+        e.due("highest", x.shape(2), 9);
+        for (int i = 0; i < 9; i++) {
+            int field = x.pile(0, i);
+            e.due("below it", x.where(field, 2), i);
+            e.due("its face is up or down", x.where(field, 3) & ~1, 0);
+        }
+        e.due("twice turned", x.where(8, 3), 0);
+    }
+
     private static void ledBounds() {
         e.says("LED: FOLDS (what 0), WRONG (1), TORN (2). BAD");
         e.unchanged("folds", Edges.RICH, x -> x.led(0), 4);
@@ -551,17 +580,14 @@ public final class SheetEdgesTest {
         MapFold x = Edges.sheetOf(48);
         x.limit(99);
         Edges.lawOf(x, "0");
-        int calls = 4;
         int folds = 0;
-        while (calls < 511) {
+        // Four calls so far; 2 * 253 more, then one.
+        while (folds < 253) {
             x.fold(4, 0);
             x.flat();
             folds++;
-            calls += 2;
         }
-        if (calls < 511) {
-            x.shape(0);
-        }
+        x.shape(0);
         e.due("the 512th call", x.led(0), folds);
         MapFold full = new MapFold();
         for (int i = 0; i < 511; i++) {

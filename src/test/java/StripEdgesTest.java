@@ -21,6 +21,7 @@ public final class StripEdgesTest {
         stripsChangeNothing();
         backWithoutAnImage();
         imageKeeps();
+        imageOfTheLargest();
         imageOfTheLatest();
         imageLeavesTheRest();
         imageAtTheLimit();
@@ -362,6 +363,29 @@ public final class StripEdgesTest {
         e.due("an image of a new object", new MapFold().image(), 0);
     }
 
+    private static void imageOfTheLargest() {
+        e.says("AN IMAGE keeps .. CREASES: each of them, of the largest sheet, too");
+        Edges.Use before = x -> {
+            x.sheet(48);
+            x.fold(7, 0);
+            x.flat();
+            x.fold(7, 1);
+            x.flat();
+            x.fold(3, 7);
+            return x.image();
+        };
+        Edges.Use other = x -> {
+            before.on(x);
+            x.flat();
+            x.fold(7, 2);
+            x.fold(3, 4);
+            x.sheet(48);
+            return x.back();
+        };
+        e.due("folds so far", other.on(new MapFold()), 3);
+        e.same("back", Edges.state(other), Edges.state(before));
+    }
+
     private static void imageOfTheLatest() {
         e.says("AN IMAGE is kept: FOLDS so far.");
         MapFold x = new MapFold();
@@ -417,10 +441,15 @@ public final class StripEdgesTest {
     private static Edges.Use changes(int many) {
         return x -> {
             for (int i = 1; i <= many; i++) {
-                x.limit(i % 2 == 0 ? 50 + i % 40 : i % 40 + 1);
+                x.limit(limitOf(i));
             }
             return x.count(3);
         };
+    }
+
+    /** What the i-th of many changes makes of the limit: never what it was; 20 ahead of the first. */
+    private static int limitOf(int i) {
+        return i == 0 ? 20 : i % 2 == 0 ? 50 + i % 40 : i % 40 + 1;
     }
 
     private static void undoneNone() {
@@ -447,9 +476,7 @@ public final class StripEdgesTest {
                 e.due("undone of " + many, x.undo(), i);
             }
             e.due("none is left of " + many, x.undo(), STATE);
-            int forgotten = many - can;
-            int due = forgotten == 0 ? 20 : forgotten % 2 == 0 ? 50 + forgotten % 40 : forgotten % 40 + 1;
-            e.due("the limit behind all of " + many, x.limit(99), due);
+            e.due("the limit behind all of " + many, x.limit(99), limitOf(many - can));
         }
         MapFold x = Edges.made(changes(40));
         e.due("the 41st", x.limit(99) > 0 ? x.count(3) : 0, 40);
@@ -510,9 +537,10 @@ public final class StripEdgesTest {
         }
         for (int i = 39; i >= 0; i--) {
             e.due("done again", x.redo(), i);
+            int latest = limitOf(45 - i);
+            e.due("the limit behind it", x.limit(latest), latest);
         }
         e.due("none", x.redo(), STATE);
-        e.due("the latest", x.limit(98), 6);
         e.due("forty", x.count(3), 40);
         MapFold y = Edges.made(changes(40));
         y.undo();
