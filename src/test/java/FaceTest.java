@@ -32,8 +32,11 @@ public final class FaceTest {
     public static void main(String[] args) throws IOException {
         methods();
         constants();
+        document(Files.readString(Path.of("../shared/DOC.md")));
         nested(MapFold.class, publicNames());
-        words(Files.readString(Path.of("src/main/java/MapFold.java")));
+        String code = withoutComments(Files.readString(Path.of("src/main/java/MapFold.java")));
+        words(code);
+        bodies(code);
         System.out.println(wrong == 0 ? "the face is as it must be" : wrong + " faults of the face");
         if (wrong != 0) {
             System.exit(1);
@@ -109,8 +112,23 @@ public final class FaceTest {
         }
     }
 
-    private static void words(String source) {
-        String code = source.replaceAll("(?s)/\\*.*?\\*/", "").replaceAll("//[^\n]*", "");
+    /** The list above is the document's own, and so are the constants. */
+    private static void document(String text) {
+        Set<String> due = new TreeSet<>();
+        Matcher m = Pattern.compile("(?m)^    public (int|long) (\\w+)\\(([^)]*)\\);").matcher(text);
+        while (m.find()) {
+            due.add(m.group(2) + ":" + m.group(3).replaceAll(" \\w+(?=,|$)", "").replace(" ", ""));
+            check(m.group(1).equals(m.group(2).equals("element") ? "long" : "int"), m.group() + " answers another type");
+        }
+        check(due.equals(new TreeSet<>(List.of(METHODS))), "the document's methods are " + due);
+        check(text.contains("BAD = -1, NOT = -2, FULL = -3, STATE = -5, VOID = -2000000000;"), "the document's constants");
+    }
+
+    private static String withoutComments(String source) {
+        return source.replaceAll("(?s)/\\*.*?\\*/", "").replaceAll("//[^\n]*", "");
+    }
+
+    private static void words(String code) {
         Matcher m = Pattern.compile("\\b(throw|throws|try|catch|finally|synchronized|assert|package|float|double"
             + "|[A-Za-z]*Exact|Random|System\\.(?!arraycopy)\\w+|Thread)\\b|->|::").matcher(code);
         while (m.find()) {
@@ -120,5 +138,30 @@ public final class FaceTest {
         while (imports.find()) {
             check(imports.group(1).equals("java.util.Arrays"), "import of " + imports.group(1));
         }
+    }
+
+    /** Methods stay short, and only fields and constructors make objects: so the room does not fill with the calls. */
+    private static void bodies(String code) {
+        Pattern head = Pattern.compile("^ +(?!switch|for|if|while|else|\\})(?:[\\w\\[\\]]+ )*(\\w+)\\(.*\\) \\{$");
+        int indent = -1;
+        int length = 0;
+        String name = "";
+        for (String line : code.split("\n")) {
+            int spaces = line.length() - line.stripLeading().length();
+            Matcher m = head.matcher(line);
+            if (indent < 0 && m.matches()) {
+                indent = spaces;
+                length = 0;
+                name = m.group(1);
+            }
+            length++;
+            boolean makes = line.contains("new ") && !line.contains(" final ");
+            check(!makes || indent >= 0 && Character.isUpperCase(name.charAt(0)), "a call makes an object:" + line);
+            if (indent >= 0 && spaces == indent && line.strip().equals("}")) {
+                check(length <= 60, name + " has " + length + " lines");
+                indent = -1;
+            }
+        }
+        check(indent < 0, name + " has no end");
     }
 }
